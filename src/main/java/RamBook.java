@@ -147,16 +147,21 @@ public final class RamBook {
     int bestStroke = NONE;
     int bestUp = NONE;
     int bestWaste = 0;
-    for (int weight = 5; weight <= MOST[WEIGHT]; weight += 5) {
-      for (int stroke = 1; stroke <= MOST[STROKE]; stroke++) {
+    for (int stroke = 1; stroke <= MOST[STROKE]; stroke++) {
+      trial.put(STROKE, stroke);
+      for (int weight = 5; weight <= MOST[WEIGHT]; weight += 5) {
         trial.put(WEIGHT, weight);
-        trial.put(STROKE, stroke);
+        if (trial.stalls()) {
+          // So does the same stroke with more weight.
+          break;
+        }
         int up = trial.upAnHour();
         int waste = trial.wasteAnHour();
         if (up <= 0 || up + waste > seasons.springs[month]) {
           continue;
         }
-        if (bestUp == NONE || isBetter(aim, up, waste, bestUp, bestWaste)) {
+        long better = bestUp == NONE ? 1 : advantage(aim, up, waste, bestUp, bestWaste);
+        if (better > 0 || better == 0 && weight < bestWeight) {
           bestWeight = weight;
           bestStroke = stroke;
           bestUp = up;
@@ -381,9 +386,9 @@ public final class RamBook {
     return within(ram, 0, ramCount - 1);
   }
 
-  // Products instead of quotients, so that two pairs are held against one another exactly.
-  private static boolean isBetter(int aim, int up, int waste, int bestUp, int bestWaste) {
-    return aim == 0 ? up > bestUp : (long) waste * bestUp < (long) bestWaste * up;
+  // Above 0: better than the best so far; 0: as good. Products instead of quotients, to be exact.
+  private static long advantage(int aim, int up, int waste, int bestUp, int bestWaste) {
+    return aim == 0 ? up - bestUp : (long) bestWaste * up - (long) waste * bestUp;
   }
 
   private void runRams() {
@@ -393,12 +398,13 @@ public final class RamBook {
       if (one.trait(RUNS) == 0 || seasons.stop(one, nowMonth, nowHour)) {
         continue;
       }
-      int draws = one.drawsAnHour();
-      if (draws > left) {
+      int up = one.upAnHour();
+      int waste = one.wasteAnHour();
+      if (up + waste > left) {
         continue;
       }
-      left -= draws;
-      store.receive(one.upAnHour(), one.wasteAnHour());
+      left -= up + waste;
+      store.receive(up, waste);
       // Nothing later in this hour asks for this ram's AIR, so it may be lost here.
       one.loseAir();
     }

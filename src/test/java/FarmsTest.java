@@ -20,6 +20,8 @@ public final class FarmsTest {
     due.is("tank(2, 100)", x.tank(2, 100), BAD);
     due.is("tank(-1, 100)", x.tank(-1, 100), BAD);
     due.is("tank(1, 0)", x.tank(1, 0), 100);
+    due.is("tank(0, 99), empty", x.tank(0, 99), BAD);
+    due.is("tank(0, -100)", x.tank(0, -100), BAD);
     due.is("book(0), not by tank()", x.book(0), 0);
     due.is("book(2), not by tank()", x.book(2), 0);
   }
