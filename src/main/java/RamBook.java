@@ -531,7 +531,8 @@ public final class RamBook {
     }
 
     int beatsAnHour() {
-      return stalls() ? 0 : (int) share(3600, span());
+      reckon();
+      return stalling ? 0 : (int) share(3600, span());
     }
 
     int wasteAnHour() {

@@ -5,20 +5,39 @@ final class Due {
   private final String test;
   private int held = 0;
   private int wrong = 0;
+  // The words of the document that are held now, ahead of every call in the report; none at first.
+  private String words = "";
+  private int heldBefore = -1;
 
   Due(String test) {
     this.test = test;
+  }
+
+  /** From here on answers are held for these words of the document. SentencesTest looks whether they stand there. */
+  void sentence(String quoted) {
+    endSentence();
+    words = "\"" + quoted + "\" ";
+    heldBefore = held;
+  }
+
+  // Words behind which nothing is held would look tested, and not be.
+  private void endSentence() {
+    if (held == heldBefore) {
+      wrong++;
+      System.out.println(test + ": " + words + "nothing is held");
+    }
   }
 
   void is(String call, long got, long want) {
     held++;
     if (got != want) {
       wrong++;
-      System.out.println(test + ": " + call + " answered " + got + ", due is " + want);
+      System.out.println(test + ": " + words + call + " answered " + got + ", due is " + want);
     }
   }
 
   void end() {
+    endSentence();
     System.out.println(test + ": " + held + " answers, " + wrong + " not as due");
     if (wrong != 0) {
       System.exit(1);
