@@ -162,6 +162,17 @@ public final class AilsEdgesTest {
     ails("all, each as good as another", all, 256, 0, 0);
     ails("just one", one, 1, 15, NONE);
     due.is("none: NEXT LOOK", none.ails(0, 2), NONE);
+    // one object from all to one to none and back: what was found before does not stay
+    RamBook x = Made.ram(15, 212, 286, 5);
+    x.tolerance(0, 0);
+    x.tolerance(1, 0);
+    ails("at first", x, 256, 0, 0);
+    x.read(0, 105, 3885);
+    ails("then", x, 1, 15, NONE);
+    x.read(0, 106, NONE);
+    ails("then none", x, 0, NONE, NONE);
+    x.wipe();
+    ails("wiped", x, 256, 0, 0);
     due.sentence("How many CAUSES FIT a RAM (what = 0), the least (1; NONE), NEXT LOOK (2). BAD.");
     ails("none", none, 0, NONE, NONE);
     int[][] bad = {{0, -1}, {0, 3}, {-1, 0}, {1, 0}};

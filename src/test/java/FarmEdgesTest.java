@@ -156,10 +156,22 @@ public final class FarmEdgesTest {
   private static void ends() {
     due.sentence("the text's length, if it ends too early;");
     String two = "f0 0-9:12;f4 0-24:9999;";
+    // what THE DRAFT had before is not read on
+    RamBook reused = Made.rights(two);
     for (int end = 1; end < two.length(); end++) {
       if (end != 10) {
         faultOf(two.substring(0, end), end);
+        Due.type(reused, two.substring(0, end));
+        due.is("the same behind a longer one: rights()", reused.rights(), -10 - end);
+        reused.clear();
       }
+    }
+    // eleven ITEMS and the beginning of one more: 150 bytes, so that nothing lies behind them
+    for (int end = 1; end <= 12; end++) {
+      int longer = 150 - 11 * 12 - end, longest = Math.max(0, longer - 11);
+      String items = "f0 10-24:9999;".repeat(longest) + "f0 0-24:9999;".repeat(longer - 2 * longest)
+          + "f0 0-9:9999;".repeat(11 - longer + longest);
+      faultOf(items + "f0 0-24:9999;".substring(0, end), 150);
     }
     due.is("it ends in time", Made.rights(two.substring(0, 10)).count(2), 1);
     due.is("it does not end too early", Made.rights(two).count(2), 2);

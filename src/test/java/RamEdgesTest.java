@@ -60,6 +60,8 @@ public final class RamEdgesTest {
     due.is("RISE just above the least FALL", x.ram(5, 6, 120, 4), 0);
     due.is("RISE at the most FALL", x.ram(200, 200, 120, 4), BAD);
     due.is("RISE just above the most FALL", x.ram(200, 201, 120, 4), 1);
+    due.is("RISE just below FALL", x.ram(30, 29, 120, 4), BAD);
+    due.is("RISE far below FALL", x.ram(200, 6, 120, 4), BAD);
     due.sentence("LONG (20 .. 900; the drive pipe)");
     made(2, 20, 900);
     bounds(2, 20, 900, 120);
@@ -88,6 +90,11 @@ public final class RamEdgesTest {
     due.sentence("A BEAT goes by ticks from rest, SPEED 0: at each tick SPEED becomes GAIN more");
     // the first tick has GAIN alone, whatever drags
     swing("from rest", Made.ram(30, 150, 120, 4, WEIGHT, 10, CHOKED, 3), 1, 50, 8);
+    // as they are made: 50, 99, 147 with WASTE 2, 3, 5; 44, 87, 129 with WASTE 15, 31, 46
+    swing("the least RAM", Made.ram(5, 6, 20, 1), 3, 147, 10);
+    due.is("the least RAM: UP", Made.ram(5, 6, 20, 1).beat(0, 3), 5);
+    swing("the greatest RAM", Made.ram(200, 1000, 900, 9), 3, 129, 92);
+    due.is("the greatest RAM: UP", Made.ram(200, 1000, 900, 9).beat(0, 3), 11);
     due.sentence("less SPEED (as it was) times (3 and CHOKED) by 100, rounded down");
     // 33 times 3 is 99: nothing; 34 times 3 is 102: 1
     swing("99 by 100", Made.ram(33, 300, 200, 1, WEIGHT, 87, STROKE, 1), 2, 66, 0);
@@ -154,6 +161,13 @@ public final class RamEdgesTest {
     stalling("57.6", Made.ram(8, 100, 900, 1, STROKE, 1, WORN, 1, WEIGHT, 400), 57);
     stalling("86.4", Made.ram(8, 100, 900, 3, STROKE, 1, WEIGHT, 400), 86);
     stalling("the most", Made.ram(8, 100, 900, 9, STROKE, 9, WORN, 3, WEIGHT, 400), 3110);
+    // one ram to and fro, asked for BEATS alone: SPAN 38, and none
+    RamBook turn = Made.ram(7, 100, 900, 1, STROKE, 1, WEIGHT, 23);
+    due.is("BEATS", turn.hourly(0, 0), 94);
+    turn.set(0, WEIGHT, 24);
+    due.is("BEATS, one heavier", turn.hourly(0, 0), 0);
+    turn.set(0, WEIGHT, 23);
+    due.is("BEATS, as before", turn.hourly(0, 0), 94);
     due.sentence("0 the tick at which it SHUTS (NONE: it STALLS), 1 SPEED then, 2 WASTE, 3 UP, 4 SPAN; NONE of 1 .. 4 likewise. BAD.");
     RamBook x = Made.ram(8, 100, 900, 1, STROKE, 1, WEIGHT, 400);
     stalling("it STALLS", x, 28);
@@ -324,6 +338,8 @@ public final class RamEdgesTest {
     bounds(RUNS, 0, 1, 1);
     RamBook y = Made.plain();
     due.is("FALL at RISE", y.set(0, 0, 150), BAD);
+    due.is("FALL just above RISE", y.set(0, 0, 151), BAD);
+    due.is("FALL far above RISE", y.set(0, 0, 200), BAD);
     due.is("FALL just below RISE", y.set(0, 0, 149), 30);
     due.is("RISE at FALL", y.set(0, RISE, 149), BAD);
     due.is("RISE below FALL", y.set(0, RISE, 31), BAD);

@@ -217,8 +217,10 @@ public final class RefusalTest {
   private static void pairsOfNumbers() {
     Object[][] rows = {
         {"RISE at FALL", (Call) (x, n) -> x.ram(30, 30, 120, 4)},
+        {"RISE below FALL", (Call) (x, n) -> x.ram(30, 29, 120, 4)},
         {"FALL at RISE", (Call) (x, n) -> x.set(0, 0, 150)},
-        {"RISE below FALL", (Call) (x, n) -> x.set(1, 1, 39)},
+        {"FALL above RISE", (Call) (x, n) -> x.set(0, 0, 151)},
+        {"RISE set below FALL", (Call) (x, n) -> x.set(1, 1, 39)},
         {"from above to", (Call) (x, n) -> x.silence(13, 12)},
         {"a digit of no TUNE behind a good one", (Call) (x, n) -> x.take(1 + 7 * 3)},
         {"a digit too many", (Call) (x, n) -> x.take(343 + 1)},

@@ -44,6 +44,12 @@ public final class TuningEdgesTest {
     due.is("WEIGHT 14 would lift more", hourly(between, 14, 4, 2), 288);
     due.is("WEIGHT 14 finds the water", hourly(between, 14, 4, 3), 10080);
     best(between);
+    // a STROKE of 0 would do with 10080, as WORN alone opens the valve
+    RamBook worn = Made.ram(92, 185, 294, 6, WORN, 3);
+    worn.spring(0, 12240);
+    due.is("WORN 3: STROKE", worn.tuned(0, 0, 0, 1), 1);
+    worn.spring(0, 12239);
+    due.is("WORN 3, a litre less: STROKE", worn.tuned(0, 0, 0, 1), NONE);
     due.sentence("that pair that DRAWS (an HOUR) no more than a MONTH's SPRING");
     int[] ram = {50, 200, 100, 3};
     due.is("5, 9 DRAWS", hourly(ram, 5, 9, 3), 18600);
@@ -131,6 +137,15 @@ public final class TuningEdgesTest {
     due.is("forget() of none", y.forget(), 0);
     due.is("the next one's number", y.tune(60, 4), 0);
     due.is("forget() of one", y.forget(), 1);
+    RamBook z = twins(2, 3, 1000000);
+    side("three", z, 8, 2 * 2570);
+    z.forget();
+    side("none of them is left", z, 0, 0);
+    due.is("none of them can be taken", z.take(1), BAD);
+    z.tune(50, 4);
+    due.is("the first is another", z.take(1), 1);
+    due.is("its WEIGHT", z.about(0, WEIGHT), 50);
+    due.is("the second is gone", z.take(2), BAD);
   }
 
   private static RamBook twins(int rams, int tunes, int water) {
@@ -160,6 +175,10 @@ public final class TuningEdgesTest {
       side(n + " of 4, a litre too little", twins(4, 1, n * 26214 - 1), numbers[n - 1], (n - 1) * 2570);
     }
     side("no water", twins(2, 2, 0), 0, 0);
+    RamBook dries = twins(2, 1, 52428);
+    side("two", dries, 8, 2 * 2570);
+    dries.spring(0, 26213);
+    side("none any more", dries, 0, 0);
     side("no RAMS", twins(0, 6, 1000000), 0, 0);
     side("no TUNES", twins(4, 0, 1000000), 0, 0);
     due.sentence("(STALLING ones may not be), and the most UP in all;");
@@ -169,6 +188,10 @@ public final class TuningEdgesTest {
     stalled.spring(0, 1000000);
     due.is("RAM 0 STALLS", stalled.beat(0, 0), NONE);
     side("RAM 1 alone", stalled, 7, 2570);
+    stalled.spring(0, 26214);
+    side("RAM 1 alone, just enough", stalled, 7, 2570);
+    stalled.spring(0, 26213);
+    side("none, a litre too little", stalled, 0, 0);
     // the first tune lifts less than the second, and two of the first more than one of the second
     RamBook most = twins(2, 0, 65021);
     most.set(0, 3, 1);
@@ -218,6 +241,10 @@ public final class TuningEdgesTest {
     due.is("take(0)", x.take(0), 1);
     due.is("RAM 1 stands still", x.about(1, RUNS), 0);
     due.is("with its TUNE", x.about(1, WEIGHT), 400);
+    due.is("take(1)", x.take(1), 1);
+    due.is("RAM 0 runs", x.about(0, RUNS), 1);
+    due.is("with TUNE 0, WEIGHT", x.about(0, WEIGHT), 5);
+    due.is("with TUNE 0, STROKE", x.about(0, STROKE), 1);
     due.sentence("BAD: a digit of no TUNE, more digits.");
     int[][] rows = {{-1, BAD}, {2, 1}, {3, BAD}, {6, BAD}, {14, 1}, {16, 1}, {17, BAD}, {21, BAD}, {22, BAD}, {48, BAD}, {49, BAD}, {50, BAD}, {343, BAD}};
     for (int[] r : rows) {
