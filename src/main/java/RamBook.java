@@ -110,7 +110,7 @@ public final class RamBook {
       case 1: return one.shutSpeed();
       case 2: return one.wasteOfBeat();
       case 3: return one.upOfBeat();
-      default: return one.span();
+      default: return one.spanOfBeat();
     }
   }
 
@@ -449,6 +449,8 @@ public final class RamBook {
     int tick = 0;
     int speed = 0;
     int waste = 0;
+    int span = 0;
+    int beats = 0;
 
     Ram() {
       System.arraycopy(LEAST, 0, traits, 0, TRAITS);
@@ -525,14 +527,14 @@ public final class RamBook {
       return (int) (lifted - leaked);
     }
 
-    int span() {
+    int spanOfBeat() {
       reckon();
-      return tick + 4 + traits[RISE] / 200;
+      return span;
     }
 
     int beatsAnHour() {
       reckon();
-      return stalling ? 0 : (int) share(3600, span());
+      return beats;
     }
 
     int wasteAnHour() {
@@ -571,6 +573,7 @@ public final class RamBook {
       stalling = true;
       speed = 0;
       waste = 0;
+      beats = 0;
       int gain = (int) share(200 * traits[FALL], traits[LONG]);
       int drag = 3 + traits[CHOKED];
       int opening = traits[STROKE] + traits[WORN];
@@ -582,6 +585,8 @@ public final class RamBook {
         waste += speed * flow / 100;
         if (speed * speed / 50 >= heft) {
           stalling = false;
+          span = tick + 4 + traits[RISE] / 200;
+          beats = (int) share(3600, span);
           return;
         }
         if (speed <= before) {
