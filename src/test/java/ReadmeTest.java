@@ -1,8 +1,6 @@
 import java.io.IOException;
-import java.io.StringWriter;
 import java.lang.reflect.Method;
 import java.lang.reflect.Modifier;
-import java.net.URI;
 import java.net.URL;
 import java.net.URLClassLoader;
 import java.nio.file.Files;
@@ -13,9 +11,6 @@ import java.util.List;
 import java.util.regex.Matcher;
 import java.util.regex.Pattern;
 import java.util.stream.Stream;
-import javax.tools.JavaFileObject;
-import javax.tools.SimpleJavaFileObject;
-import javax.tools.ToolProvider;
 
 /**
  * README.md tells the truth: it names every call and every test, and its examples, compiled and run one behind the
@@ -26,21 +21,6 @@ public final class ReadmeTest {
   private static final Pattern BLOCK = Pattern.compile("```java\n(.*?)```", Pattern.DOTALL);
   // A call, perhaps kept by a name, and its answer: words.
   private static final Pattern ANSWERED = Pattern.compile("(?:int (\\w+) = )?(\\w.*);\\s+// (-?\\d+)(:.*)?");
-
-  /** A text as a source for the compiler. */
-  private static final class Source extends SimpleJavaFileObject {
-    private final String text;
-
-    Source(String name, String text) {
-      super(URI.create("string:///" + name + ".java"), JavaFileObject.Kind.SOURCE);
-      this.text = text;
-    }
-
-    @Override
-    public CharSequence getCharContent(boolean ignoreEncodingErrors) {
-      return text;
-    }
-  }
 
   // A line with an answer behind it hands out its call, what that answered, and what README.md says.
   private static String handOut(String line) {
@@ -72,12 +52,12 @@ public final class ReadmeTest {
   }
 
   private static void holdExamples(String program, Path out) throws Exception {
-    StringWriter said = new StringWriter();
-    List<String> options = List.of("-d", out.toString(), "-classpath", System.getProperty("java.class.path"));
-    boolean compiled = ToolProvider.getSystemJavaCompiler()
-        .getTask(said, null, null, options, null, List.of(new Source("Examples", program))).call();
-    due.is("whether the examples compile: " + said, compiled ? 1 : 0, 1);
-    if (!compiled) {
+    Path source = Files.writeString(out.resolve("Examples.java"), program);
+    Process javac = new ProcessBuilder("javac", "-cp", System.getProperty("java.class.path"), "-d", out.toString(),
+        source.toString()).inheritIO().start();
+    int refused = javac.waitFor();
+    due.is("whether javac refuses the examples", refused, 0);
+    if (refused != 0) {
       return;
     }
     List<Object[]> answers = new ArrayList<>();
